@@ -45,13 +45,18 @@ public final class ListsTest {
         Check.due("its members", Look.members(x, 4), "");
         Check.due("makeScaled(4, 1, 5)", x.makeScaled(4, 1, 5), 5);
         Check.due("its members", Look.members(x, 5), "");
-        Check.noSuch("makeScaled(6, 1, 0)", x, () -> x.makeScaled(6, 1, 0));
+        x.makeSteps(0, 1);
+        Check.due("makeScaled(6, 1, 0)", x.makeScaled(6, 1, 0), 7);
+        Check.due("its members, all numbers", x.membersUpTo(7, 999), 1000);
+        Check.due("makeScaled(6, 3, 1)", x.makeScaled(6, 3, 1), 8);
+        Check.due("its members, 1 to 997", x.membersUpTo(8, 999), 333);
+        Check.noSuch("makeScaled(9, 1, 0)", x, () -> x.makeScaled(9, 1, 0));
         Check.noSuch("makeScaled(-1, 0, 100)", x, () -> x.makeScaled(-1, 0, 100));
         Check.outOfRange("makeScaled(0, 0, 0)", x, () -> x.makeScaled(0, 0, 0));
         Check.outOfRange("makeScaled(0, 10, 0)", x, () -> x.makeScaled(0, 10, 0));
         Check.outOfRange("makeScaled(0, 1, -1)", x, () -> x.makeScaled(0, 1, -1));
         Check.outOfRange("makeScaled(0, 1, 100)", x, () -> x.makeScaled(0, 1, 100));
-        Check.due("states that are remembered", Look.undoAll(x), 6);
+        Check.due("states that are remembered", Look.undoAll(x), 9);
     }
 
     private static void joined() {
@@ -139,12 +144,16 @@ public final class ListsTest {
         Check.due("its members", Look.members(x, 3), " 792");
         Check.due("makeThinned(3, 2)", x.makeThinned(3, 2), 4);
         Check.due("its members", Look.members(x, 4), "");
-        Check.noSuch("makeThinned(5, 0)", x, () -> x.makeThinned(5, 0));
+        x.makeSteps(0, 1);
+        Check.due("makeThinned(5, 8)", x.makeThinned(5, 8), 6);
+        Check.due("its members", x.membersUpTo(6, 999), 125);
+        Check.due("the last one", x.lastMember(6), 999);
+        Check.noSuch("makeThinned(7, 0)", x, () -> x.makeThinned(7, 0));
         Check.noSuch("makeThinned(-1, 1)", x, () -> x.makeThinned(-1, 1));
         Check.outOfRange("makeThinned(0, 0)", x, () -> x.makeThinned(0, 0));
         Check.outOfRange("makeThinned(0, 10)", x, () -> x.makeThinned(0, 10));
         Check.outOfRange("makeThinned(0, -2)", x, () -> x.makeThinned(0, -2));
-        Check.due("states that are remembered", Look.undoAll(x), 4);
+        Check.due("states that are remembered", Look.undoAll(x), 6);
     }
 
     private static void addedUp() {

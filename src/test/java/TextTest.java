@@ -6,6 +6,7 @@ public final class TextTest {
         rules();
         wrongLetters();
         wrongDigits();
+        endsTooSoon();
         loadMakes();
         loadSkips();
         loadForgets();
@@ -122,6 +123,21 @@ public final class TextTest {
         error("Lq", 2);
     }
 
+    private static void endsTooSoon() {
+        RuleLists x = new RuleLists();
+        Look.write(x, "Ls12345x00678");
+        x.clearText();
+        // What stood there before is no part of the text.
+        Look.write(x, "Ls12");
+        Check.due("errorPosition() of a text that ends too soon", x.errorPosition(), 4);
+        x.append('9');
+        Check.due("errorPosition() one digit later", x.errorPosition(), 5);
+        Check.notNow("load() of a text that ends too soon", x, x::load);
+        RuleLists longest = new RuleLists();
+        Look.write(longest, "L" + "d".repeat(118) + "n");
+        Check.due("errorPosition() of 120 characters that end too soon", longest.errorPosition(), 120);
+    }
+
     private static void loadMakes() {
         RuleLists x = new RuleLists();
         Look.write(x, "Ls98605x00102j0001h0002w0200v00e002u00");
@@ -134,6 +150,11 @@ public final class TextTest {
         for (int list = 0; list < members.length; list++) {
             Check.due("the list " + list, Look.members(x, list), members[list]);
         }
+        RuleLists two = Look.loaded("Ls00005s00707u01v01e012r01");
+        Check.due("rules of the list 1", Look.members(two, 4).substring(0, 9), " 14 28 42");
+        Check.due("its sum", two.memberByReading(2, 1), 21);
+        Check.due("its sieve", two.lastMember(3), 7);
+        Check.due("its reader", two.listOf(0), 1);
         RuleLists y = Look.loaded("Ls00003r00r00r00n0n0k102n2k299z2q1d");
         Check.due("readers()", y.readers(), 2);
         Check.due("readings()", y.readings(), 3);

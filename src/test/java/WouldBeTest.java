@@ -5,6 +5,8 @@ public final class WouldBeTest {
         membersIfJoined();
         skipsTo();
         simulateOneTurn();
+        simulateAndReadWhatIsMade();
+        simulateManyReadings();
         simulateChangesNothing();
         Check.end();
     }
@@ -73,9 +75,83 @@ public final class WouldBeTest {
         return inverse;
     }
 
+    private static long following(long x) {
+        return x * 6364136223846793005L + 1442695040888963407L;
+    }
+
+    /** A seed whose first turn computes just this x. */
+    private static long seedAhead(long x) {
+        return (x - 1442695040888963407L) * inverseOfMultiplier();
+    }
+
     /** A seed whose first turn computes just this r. */
     private static long seedFor(int r) {
-        return (((long) r << 33) - 1442695040888963407L) * inverseOfMultiplier();
+        return seedAhead((long) r << 33);
+    }
+
+    private static boolean isTurn(long x, int least, int greatest, int modulus, int want) {
+        int r = (int) (x >>> 33);
+        return r % 16 >= least && r % 16 <= greatest && r / 16 % modulus == want;
+    }
+
+    /** A seed whose turns are: this r; a reader of this list begins; the reader 0 reads; and reads again. */
+    private static long seedForReading(int r, int list) {
+        for (long low = 0; low < 1L << 33; low++) {
+            long x = (long) r << 33 | low;
+            long second = following(x);
+            long third = following(second);
+            if (isTurn(second, 9, 9, 12, list) && isTurn(third, 11, 15, 4, 0)
+                    && isTurn(following(third), 11, 15, 4, 0)) {
+                return seedAhead(x);
+            }
+        }
+        throw new Error("no such seed");
+    }
+
+    private static void made(int kind, int q, int list, int want) {
+        // 0: 10, 15, 20 ..; 1: 12, 16, 20 ..; 2: 2, 4, 6 ..
+        RuleLists x = Look.loaded("Ls01005s01204s00202");
+        Check.due("turns " + kind + " with " + q, x.simulate(seedForReading(q * 16 + kind, list), 4), want);
+    }
+
+    private static void simulateAndReadWhatIsMade() {
+        made(0, 128 * 5 + 50, 3, 40000 + 90 + 96);
+        made(1, 128 * 19, 3, 40000 + 32 + 52);
+        made(0, 128 * 20 + 7, 3, 40000 + 67 + 68);
+        made(2, 36, 3, 40000 + 30 + 45);
+        made(2, 49, 3, 40000 + 12 + 16);
+        made(3, 24, 3, 40000 + 10 + 12);
+        made(3, 216, 3, 40000 + 10 + 12);
+        made(4, 24, 3, 40000 + 20 + 40);
+        made(5, 24, 3, 40000 + 10 + 15);
+        made(5, 1, 3, 40000 + 12 + 16);
+        made(6, 2, 3, 40000 + 2);
+        made(7, 36, 3, 40000 + 20 + 35);
+        made(7, 72, 3, 40000 + 10 + 15);
+        made(8, 12, 3, 40000 + 10 + 25);
+        made(9, 0, 1, 30000 + 10 + 15);
+        made(10, 0, 0, 20000 + 10 + 15);
+    }
+
+    /** Nothing but reading can be done here, so that the test can add up the members itself. */
+    private static void simulateManyReadings() {
+        RuleLists x = Look.loaded("L" + "s90001".repeat(12) + "r11r00r00r00");
+        boolean beyond = false;
+        for (long seed = 1; seed <= 30; seed++) {
+            int[] passed = new int[4];
+            int sum = 0;
+            long follower = seed;
+            for (int turn = 0; turn < 60; turn++) {
+                follower = following(follower);
+                int r = (int) (follower >>> 33);
+                if (r % 16 > 10) {
+                    sum += 900 + passed[r / 16 % 4]++;
+                }
+            }
+            beyond |= sum > 9999;
+            Check.due("simulate(" + seed + ", 60)", x.simulate(seed, 60), 120000 + sum % 10000);
+        }
+        Check.due("more than 9999 are read", beyond, true);
     }
 
     private static int turn(RuleLists x, int kind, int q) {
