@@ -136,6 +136,10 @@ public final class MembersTest {
         Check.due("firstShared of lists that do not meet", y.firstShared(0, 1), RuleLists.NONE);
         RuleLists z = Look.loaded("Ls00007s00513");
         Check.due("firstShared of lists that meet later", z.firstShared(0, 1), 70);
+        RuleLists full = Look.loaded("Ls00002s00002s00102s00102" + "w0000".repeat(8));
+        Check.due("firstShared of lists whose neighbours share", full.firstShared(1, 2), RuleLists.NONE);
+        Check.due("firstShared of the last list", full.firstShared(11, 11), RuleLists.NONE);
+        Check.due("firstShared beside a full list", full.firstShared(0, 2), RuleLists.NONE);
         Check.noSuch("firstShared(4, 0)", x, () -> x.firstShared(4, 0));
         Check.noSuch("firstShared(0, 4)", x, () -> x.firstShared(0, 4));
         Check.noSuch("firstShared(-1, 0)", x, () -> x.firstShared(-1, 0));
