@@ -2,8 +2,18 @@
 final class Check {
     private static int passed;
     private static int failed;
+    private static String about = "";
 
     private Check() {
+    }
+
+    /** Stands ahead of every complaint from now on. */
+    static void about(String what) {
+        about = what;
+    }
+
+    static int counted() {
+        return passed + failed;
     }
 
     static void due(String call, long got, long want) {
@@ -59,7 +69,7 @@ final class Check {
             passed++;
         } else {
             failed++;
-            System.out.println(complaint);
+            System.out.println(about + complaint);
         }
     }
 }

@@ -34,6 +34,44 @@ final class Look {
         return x.listOf(reader) + " " + x.readSoFar(reader) + " " + x.nextOf(reader);
     }
 
+    /**
+     * All that the object holds: state, text, what is remembered, what is saved. The object is used up by
+     * it, within the 512 calls that are promised, so two objects that were made alike are compared.
+     */
+    static String whole(RuleLists x) {
+        StringBuilder out = new StringBuilder(state(x)).append(", error ").append(x.errorPosition());
+        while (Check.nameOfThrown(x::undo).equals("nothing")) {
+            out.append("\nbefore: ").append(shortly(x));
+        }
+        for (int slot = 0; slot < 2; slot++) {
+            int number = slot;
+            boolean saved = Check.nameOfThrown(() -> x.restore(number)).equals("nothing");
+            out.append("\nslot: ").append(saved ? state(x) : "nothing");
+        }
+        boolean rules = Check.nameOfThrown(x::load).equals("nothing");
+        out.append("\ntext: ").append(rules ? state(x) : "no rules");
+        return out.append(", length ").append(x.clearText()).toString();
+    }
+
+    /** The state in few calls: of each list only how many members it has, the last, and the widest gap. */
+    static String state(RuleLists x) {
+        StringBuilder out = new StringBuilder(shortly(x));
+        for (int list = 0; list < x.lists(); list++) {
+            out.append(" / ").append(x.membersUpTo(list, 999)).append(' ').append(x.lastMember(list));
+            out.append(' ').append(x.widestGap(list));
+        }
+        return out.toString();
+    }
+
+    private static String shortly(RuleLists x) {
+        StringBuilder out = new StringBuilder();
+        out.append(x.lists()).append(" lists, ").append(x.readings()).append(" readings, drop ").append(x.whyNoDrop());
+        for (int reader = 0; reader < x.readers(); reader++) {
+            out.append(", ").append(reader(x, reader));
+        }
+        return out.toString();
+    }
+
     /** How many states are remembered; the object is undone to its oldest one. */
     static int undoAll(RuleLists x) {
         int undone = 0;

@@ -65,53 +65,10 @@ public final class WouldBeTest {
         Check.outOfRange("skipsTo(0, 1000)", x, () -> x.skipsTo(0, 1000));
     }
 
-    /** The inverse of the multiplier, by Newton's steps: each doubles the bits that are right. */
-    private static long inverseOfMultiplier() {
-        long multiplier = 6364136223846793005L;
-        long inverse = multiplier;
-        for (int step = 0; step < 6; step++) {
-            inverse *= 2 - multiplier * inverse;
-        }
-        return inverse;
-    }
-
-    private static long following(long x) {
-        return x * 6364136223846793005L + 1442695040888963407L;
-    }
-
-    /** A seed whose first turn computes just this x. */
-    private static long seedAhead(long x) {
-        return (x - 1442695040888963407L) * inverseOfMultiplier();
-    }
-
-    /** A seed whose first turn computes just this r. */
-    private static long seedFor(int r) {
-        return seedAhead((long) r << 33);
-    }
-
-    private static boolean isTurn(long x, int least, int greatest, int modulus, int want) {
-        int r = (int) (x >>> 33);
-        return r % 16 >= least && r % 16 <= greatest && r / 16 % modulus == want;
-    }
-
-    /** A seed whose turns are: this r; a reader of this list begins; the reader 0 reads; and reads again. */
-    private static long seedForReading(int r, int list) {
-        for (long low = 0; low < 1L << 33; low++) {
-            long x = (long) r << 33 | low;
-            long second = following(x);
-            long third = following(second);
-            if (isTurn(second, 9, 9, 12, list) && isTurn(third, 11, 15, 4, 0)
-                    && isTurn(following(third), 11, 15, 4, 0)) {
-                return seedAhead(x);
-            }
-        }
-        throw new Error("no such seed");
-    }
-
     private static void made(int kind, int q, int list, int want) {
         // 0: 10, 15, 20 ..; 1: 12, 16, 20 ..; 2: 2, 4, 6 ..
         RuleLists x = Look.loaded("Ls01005s01204s00202");
-        Check.due("turns " + kind + " with " + q, x.simulate(seedForReading(q * 16 + kind, list), 4), want);
+        Check.due("turns " + kind + " with " + q, x.simulate(Seeds.seedForReading(q * 16 + kind, list), 4), want);
     }
 
     private static void simulateAndReadWhatIsMade() {
@@ -144,7 +101,7 @@ public final class WouldBeTest {
             int sum = 0;
             long follower = seed;
             for (int turn = 0; turn < 60; turn++) {
-                follower = following(follower);
+                follower = Seeds.following(follower);
                 int r = (int) (follower >>> 33);
                 if (r % 16 > 10) {
                     sum += 900 + passed[r / 16 % 4]++;
@@ -157,7 +114,7 @@ public final class WouldBeTest {
     }
 
     private static int turn(RuleLists x, int kind, int q) {
-        return x.simulate(seedFor(q * 16 + kind), 1);
+        return x.simulate(Seeds.seedFor(q * 16 + kind), 1);
     }
 
     private static void simulateOneTurn() {
