@@ -118,6 +118,9 @@ final class Actions {
             RuleLists x = made.get();
             calls.accept(x);
             Check.due("all after the calls", Look.whole(x), Look.whole(made.get()));
+            RuleLists y = made.get();
+            calls.accept(y);
+            Check.due("states that are remembered after the calls", Look.undoAll(y), Look.undoAll(made.get()));
         }
     }
 

@@ -28,11 +28,14 @@ final class Check {
         count(got.equals(want), call + " answered " + got + ", due is " + want);
     }
 
-    /** The call has to throw an exception of just this class, and to leave the object as it was. */
+    /**
+     * The call has to throw an exception of just this class, and to leave the object as it was. Only what few calls
+     * show is looked at, as an object may be used for 512 of them; Refusals look at all.
+     */
     static void refused(String call, RuleLists x, Class<? extends RuntimeException> want, Runnable run) {
-        String before = Look.at(x);
+        String before = Look.shortly(x);
         due(call, nameOfThrown(run), want.getName());
-        due("all after " + call, Look.at(x), before);
+        due("all after " + call, Look.shortly(x), before);
     }
 
     static void noSuch(String call, RuleLists x, Runnable run) {

@@ -1,21 +1,9 @@
-/** What an object shows without being changed, as a text. */
+/** What an object shows, as a text. */
 final class Look {
-    private Look() {
-    }
+    /** More than can be remembered, so that an undo() which never refuses is found out. */
+    private static final int MOST_UNDOS = 20;
 
-    static String at(RuleLists x) {
-        StringBuilder out = new StringBuilder();
-        out.append("error ").append(x.errorPosition());
-        out.append(", drop ").append(x.whyNoDrop());
-        out.append(", least ").append(x.leastNext());
-        out.append(", readings ").append(x.readings());
-        for (int list = 0; list < x.lists(); list++) {
-            out.append("\nlist ").append(list).append(':').append(members(x, list));
-        }
-        for (int reader = 0; reader < x.readers(); reader++) {
-            out.append("\nreader ").append(reader).append(':').append(reader(x, reader));
-        }
-        return out.toString();
+    private Look() {
     }
 
     /** All members, " 1 2 3", found by reading. */
@@ -39,10 +27,11 @@ final class Look {
      * it, within the 512 calls that are promised, so two objects that were made alike are compared.
      */
     static String whole(RuleLists x) {
-        StringBuilder out = new StringBuilder(state(x)).append(", error ").append(x.errorPosition());
-        while (Check.nameOfThrown(x::undo).equals("nothing")) {
+        StringBuilder out = new StringBuilder(state(x));
+        for (int times = 0; times < MOST_UNDOS && Check.nameOfThrown(x::undo).equals("nothing"); times++) {
             out.append("\nbefore: ").append(shortly(x));
         }
+        out.append("\nerror ").append(x.errorPosition());
         for (int slot = 0; slot < 2; slot++) {
             int number = slot;
             boolean saved = Check.nameOfThrown(() -> x.restore(number)).equals("nothing");
@@ -56,17 +45,20 @@ final class Look {
     /** The state in few calls: of each list only how many members it has, the last, and the widest gap. */
     static String state(RuleLists x) {
         StringBuilder out = new StringBuilder(shortly(x));
-        for (int list = 0; list < x.lists(); list++) {
+        int lists = x.lists();
+        for (int list = 0; list < lists; list++) {
             out.append(" / ").append(x.membersUpTo(list, 999)).append(' ').append(x.lastMember(list));
             out.append(' ').append(x.widestGap(list));
         }
         return out.toString();
     }
 
-    private static String shortly(RuleLists x) {
+    /** The state but for the lists' members, in still fewer calls. */
+    static String shortly(RuleLists x) {
         StringBuilder out = new StringBuilder();
         out.append(x.lists()).append(" lists, ").append(x.readings()).append(" readings, drop ").append(x.whyNoDrop());
-        for (int reader = 0; reader < x.readers(); reader++) {
+        int readers = x.readers();
+        for (int reader = 0; reader < readers; reader++) {
             out.append(", ").append(reader(x, reader));
         }
         return out.toString();
@@ -75,7 +67,7 @@ final class Look {
     /** How many states are remembered; the object is undone to its oldest one. */
     static int undoAll(RuleLists x) {
         int undone = 0;
-        while (Check.nameOfThrown(x::undo).equals("nothing")) {
+        while (undone < MOST_UNDOS && Check.nameOfThrown(x::undo).equals("nothing")) {
             undone++;
         }
         return undone;

@@ -32,6 +32,7 @@ public final class MembersTest {
     private static void isMember() {
         RuleLists x = Look.loaded(TEXT);
         for (int number = 0; number <= 999; number++) {
+            x = number % 250 == 0 ? Look.loaded(TEXT) : x;
             Check.due("isMember(0, " + number + ")", x.isMember(0, number), number % 63 == 3);
             if (number % 333 == 0) {
                 Check.due("isMember(1, " + number + ")", x.isMember(1, number), true);
@@ -39,10 +40,11 @@ public final class MembersTest {
                 Check.due("isMember(3, " + number + ")", x.isMember(3, number), false);
             }
         }
-        Check.noSuch("isMember(4, 0)", x, () -> x.isMember(4, 0));
-        Check.noSuch("isMember(-1, 1000)", x, () -> x.isMember(-1, 1000));
-        Check.outOfRange("isMember(0, -1)", x, () -> x.isMember(0, -1));
-        Check.outOfRange("isMember(1, 1000)", x, () -> x.isMember(1, 1000));
+        RuleLists y = Look.loaded(TEXT);
+        Check.noSuch("isMember(4, 0)", y, () -> y.isMember(4, 0));
+        Check.noSuch("isMember(-1, 1000)", y, () -> y.isMember(-1, 1000));
+        Check.outOfRange("isMember(0, -1)", y, () -> y.isMember(0, -1));
+        Check.outOfRange("isMember(1, 1000)", y, () -> y.isMember(1, 1000));
     }
 
     private static void membersByPlace() {
@@ -65,8 +67,8 @@ public final class MembersTest {
     }
 
     private static void bothWaysAgree() {
-        RuleLists x = Look.loaded("Ls00201v00x00307j0102h0200w0301e043u01");
-        for (int list = 0; list < x.lists(); list++) {
+        for (int list = 0; list < 8; list++) {
+            RuleLists x = Look.loaded("Ls00201v00x00307j0102h0200w0301e043u01");
             for (int place = 0; place < 60; place++) {
                 int member = x.memberByReading(list, place);
                 Check.due("memberByTesting(" + list + ", " + place + ")", x.memberByTesting(list, place), member);
@@ -95,6 +97,7 @@ public final class MembersTest {
     private static void membersUpTo() {
         RuleLists x = Look.loaded(TEXT);
         for (int number = 0; number <= 999; number++) {
+            x = number % 250 == 0 ? Look.loaded(TEXT) : x;
             Check.due("membersUpTo(1, " + number + ")", x.membersUpTo(1, number), number + 1);
         }
         int[][] due = {
@@ -104,10 +107,11 @@ public final class MembersTest {
         for (int[] row : due) {
             Check.due("membersUpTo(" + row[0] + ", " + row[1] + ")", x.membersUpTo(row[0], row[1]), row[2]);
         }
-        Check.noSuch("membersUpTo(4, 0)", x, () -> x.membersUpTo(4, 0));
-        Check.noSuch("membersUpTo(-1, 1000)", x, () -> x.membersUpTo(-1, 1000));
-        Check.outOfRange("membersUpTo(0, -1)", x, () -> x.membersUpTo(0, -1));
-        Check.outOfRange("membersUpTo(0, 1000)", x, () -> x.membersUpTo(0, 1000));
+        RuleLists y = Look.loaded(TEXT);
+        Check.noSuch("membersUpTo(4, 0)", y, () -> y.membersUpTo(4, 0));
+        Check.noSuch("membersUpTo(-1, 1000)", y, () -> y.membersUpTo(-1, 1000));
+        Check.outOfRange("membersUpTo(0, -1)", y, () -> y.membersUpTo(0, -1));
+        Check.outOfRange("membersUpTo(0, 1000)", y, () -> y.membersUpTo(0, 1000));
     }
 
     private static void lastMember() {

@@ -109,12 +109,12 @@ public final class ReadersTest {
         x.beginReading(0);
         x.read(0);
         x.makeSieved(0);
-        String before = Look.at(x);
+        String before = Look.state(x);
         x.skip(0, 3);
         x.goBack(0);
         Check.due("undo()", x.undo(), 5);
         Check.due("undo()", x.undo(), 4);
-        Check.due("all after undo", Look.at(x), before);
+        Check.due("all after undo", Look.state(x), before);
         Check.due("undo()", x.undo(), 3);
         Check.due("lists()", x.lists(), 1);
         x.append('L');

@@ -280,12 +280,15 @@ final class RestSentences {
             made(2, 32 + 4, 3, 40000 + 30 + 45);
             made(2, 48, 3, 40000 + 10 + 15);
             made(2, 2, 3, 40000 + 2 + 4);
+            // Here q / 16 differs from a division by a little less.
+            made(2, 60, 3, 40000 + 10 + 15);
         });
         Sentences.test("3: the lists q % 12 and q / 16 % 12 are joined.", () -> {
             made(3, 16 + 8, 3, 40000 + 10 + 12);
             made(3, 1, 3, 40000 + 10 + 12);
             made(3, 0, 3, 40000 + 10 + 15);
             made(3, 192 + 1, 3, 40000 + 10 + 12);
+            made(3, 204, 3, 40000 + 10 + 15);
         });
         Sentences.test("4: shared.", () -> {
             made(4, 16 + 8, 3, 40000 + 20 + 40);
@@ -308,6 +311,7 @@ final class RestSentences {
             made(7, 32 + 4, 3, 40000 + 20 + 35);
             made(7, 48, 3, 40000 + 25 + 45);
             made(7, 64 + 8, 3, 40000 + 10 + 15);
+            made(7, 60, 3, 40000 + 25 + 45);
         });
         Sentences.test("8: it is added up.", () -> {
             made(8, 0, 3, 40000 + 10 + 25);

@@ -10,30 +10,30 @@ public final class SlotsTest {
 
     private static void saveAndRestore() {
         RuleLists x = Look.loaded("Ls00101v00r01n0n0k003");
-        String first = Look.at(x);
+        String first = Look.state(x);
         Check.due("save(0)", x.save(0), 2);
         x.makeScaled(0, 5, 3);
         x.read(0);
-        String second = Look.at(x);
+        String second = Look.state(x);
         Check.due("save(1)", x.save(1), 3);
         x.stopReading(0);
         x.dropLast();
         x.dropLast();
         Check.due("restore(0)", x.restore(0), 2);
-        Check.due("all after restore(0)", Look.at(x), first);
+        Check.due("all after restore(0)", Look.state(x), first);
         Check.notNow("undo() after restore", x, x::undo);
         Check.due("restore(1)", x.restore(1), 3);
-        Check.due("all after restore(1)", Look.at(x), second);
+        Check.due("all after restore(1)", Look.state(x), second);
         x.read(0);
         x.makeAddedUp(0);
         Check.due("restore(1) again: the slot keeps it", x.restore(1), 3);
-        Check.due("all after restore(1)", Look.at(x), second);
+        Check.due("all after restore(1)", Look.state(x), second);
         x.dropLast();
         Check.due("save(1) over what was saved", x.save(1), 2);
         x.makeSteps(0, 1);
         Check.due("restore(1)", x.restore(1), 2);
         Check.due("restore(0)", x.restore(0), 2);
-        Check.due("all after restore(0)", Look.at(x), first);
+        Check.due("all after restore(0)", Look.state(x), first);
     }
 
     private static void emptyObject() {

@@ -55,6 +55,11 @@ final class TermsSentences {
                     Check.due("beyond the end", found == RuleLists.NONE, place >= members);
                 }
             }
+            RuleLists all = Look.loaded("Ls00001s99901");
+            for (int place : new int[] {0, 1, 63, 64, 500, 998, 999, 1000}) {
+                Check.due("memberByTesting(0, " + place + ")", all.memberByTesting(0, place), all.memberByReading(0, place));
+                Check.due("memberByTesting(1, " + place + ")", all.memberByTesting(1, place), all.memberByReading(1, place));
+            }
         });
         Sentences.namesNoCase("It tells, too, how many members there are up to a number, the first number that two lists"
                 + " share, what a reader comes to next, the pairs of places by corners, in two ways as well, why the last list"

@@ -69,6 +69,7 @@ final class TextSentences {
             Check.due("append, the 120th", x.append('d'), 120);
             Refusals.notNow(() -> written("L" + "d".repeat(119)), y -> y.append('d'));
             Refusals.notNow(() -> written("x".repeat(120)), y -> y.append(0));
+            Refusals.notNow(() -> fullWith("L" + "d".repeat(119)), y -> y.append('d'));
         });
     }
 
@@ -160,6 +161,7 @@ final class TextSentences {
         });
         Sentences.test("Throws IllegalStateException if the text is not rules", () -> {
             Refusals.notNow(RuleLists::new, RuleLists::load);
+            Refusals.notNow(() -> fullWith(""), RuleLists::load);
             for (String text : new String[] {"s00101", "Ls0010", "Ls00100", "LL", "Ls00101 ", "Ln4", "L" + "d".repeat(118) + "n"}) {
                 Refusals.notNow(() -> written(text), RuleLists::load);
                 Refusals.notNow(() -> fullWith(text), RuleLists::load);

@@ -142,7 +142,7 @@ public final class WouldBeTest {
         RuleLists x = Look.loaded("Ls00201v00r01n0n0r00n1");
         x.read(0);
         x.save(0);
-        String before = Look.at(x);
+        String before = Look.state(x);
         Check.outOfRange("simulate(1, 0)", x, () -> x.simulate(1, 0));
         Check.outOfRange("simulate(1, 61)", x, () -> x.simulate(1, 61));
         Check.outOfRange("simulate(1, -1)", x, () -> x.simulate(1, -1));
@@ -152,9 +152,9 @@ public final class WouldBeTest {
         }
         Check.due("simulate(greatest, 1)", x.simulate(Long.MAX_VALUE, 1) / 10000 >= 2, true);
         Check.due("simulate(least, 60)", x.simulate(Long.MIN_VALUE, 60) / 10000 <= 12, true);
-        Check.due("all after the simulations", Look.at(x), before);
+        Check.due("all after the simulations", Look.state(x), before);
         Check.due("undo()", x.undo(), 0);
         Check.due("restore(0)", x.restore(0), 2);
-        Check.due("all after restore", Look.at(x), before);
+        Check.due("all after restore", Look.state(x), before);
     }
 }
